@@ -191,13 +191,13 @@ public final class ObjectDepot {
     }
 
     public boolean alter(int k, int b) {
-        if (k < 0 || k >= wire.length || b < -1 || b > 255) {
+        if (b < -1 || b > 255 || wire.at(k) == NONE) {
             return false;
         }
         if (b == -1) {
             wire.shorten(k);
         } else {
-            wire.bytes[k] = b;
+            wire.change(k, b);
         }
         return true;
     }
@@ -266,8 +266,16 @@ public final class ObjectDepot {
             return k < 0 || k >= length ? NONE : bytes[k];
         }
 
+        void change(int k, int b) {
+            if (k >= 0 && k < length) {
+                bytes[k] = b;
+            }
+        }
+
         void shorten(int newLength) {
-            length = newLength;
+            if (newLength >= 0 && newLength < length) {
+                length = newLength;
+            }
         }
 
         boolean add(int b) {
@@ -545,10 +553,11 @@ public final class ObjectDepot {
             if (item == null || !reading.understands(item)) {
                 return;
             }
-            item.links = 0;
+            int links = 0;
             for (int i = 0; i < reading.count; i++) {
-                item.links |= bitOf(numberOf(reading.names[i]));
+                links |= bitOf(numberOf(reading.names[i]));
             }
+            item.links = links;
         }
 
         /** The numbers of all that the objects of this set reach. */
@@ -851,11 +860,11 @@ public final class ObjectDepot {
         }
 
         private void addInserted(int b) {
-            if (openInsert == NONE || parts.bytes[openInsert] == MOST_IN_PART) {
+            if (openInsert == NONE || parts.at(openInsert) == MOST_IN_PART) {
                 openInsert = parts.length;
                 parts.add(0);
             }
-            parts.bytes[openInsert]++;
+            parts.change(openInsert, parts.at(openInsert) + 1);
             parts.add(b);
         }
 

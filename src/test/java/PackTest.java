@@ -13,12 +13,14 @@ public final class PackTest {
         onlyReachedOnesAreMembers();
         deltaIsMade();
         leastPlaceAndLongestRun();
+        runsEndWithTheBase();
         threeBytesAreNoCopy();
         deltaMustMakeItShorter();
         shortestAndNearestBase();
         onlyThreeMembersBack();
         onlySameKind();
         chainsStayBelowDepth();
+        chainsBeginAnew();
         chainsOfCommits();
         copyOf127();
         insertOf127();
@@ -129,6 +131,19 @@ public final class PackTest {
         blobsAre("runs", x, 5, whole(x, 0), back(x, 1, 1, 134, 5, 1, "!", 132, 0, 5, ".....", 132, 0));
     }
 
+    /** What stood behind a content's end before belongs to no run. */
+    private static void runsEndWithTheBase() {
+        ObjectDepot x = new ObjectDepot();
+        Bytes.blob(x, "0123456789ABCDEF");
+        x.clean();
+        String[] texts = {"0123456789", "0123456789ABC"};
+        for (int i = 0; i < 2; i++) {
+            x.entry(i, Bytes.blob(x, texts[i]));
+        }
+        x.move(0, -1, x.commit(x.tree(), -1, -1, 1));
+        blobsAre("a run up to the end", x, 5, whole(x, 0), back(x, 1, 1, 138, 0, 3, "ABC"));
+    }
+
     private static void threeBytesAreNoCopy() {
         ObjectDepot x = held("abc-defg-hijklmnop", "abc+defg+hijklmnop");
         blobsAre("three and four", x, 5, whole(x, 0),
@@ -195,6 +210,19 @@ public final class PackTest {
         // The nearest has a chain of 1 already, so the one before it is taken.
         blobsAre("depth 1", x, 1, whole(x, 0), back(x, 1, 1, 144, 0, 1, "a"), back(x, 2, 2, 144, 0, 2, "ab"));
         blobsAre("depth 2", x, 2, whole(x, 0), back(x, 1, 1, 144, 0, 1, "a"), back(x, 2, 1, 145, 0, 1, "b"));
+    }
+
+    private static void chainsBeginAnew() {
+        ObjectDepot x = held("0123456789ABCDEF", "0123456789ABCDEFa");
+        Check.same("the second is a delta", x.pack(1), 4);
+        x.move(0, 3, -1);
+        x.clean();
+        String[] texts = {"................", "0123456789ABCDEFb", "0123456789ABCDEFbc"};
+        for (int i = 0; i < 3; i++) {
+            x.entry(i, Bytes.blob(x, texts[i]));
+        }
+        x.move(0, -1, x.commit(x.tree(), -1, -1, 1));
+        blobsAre("now the second is whole", x, 1, whole(x, 0), whole(x, 1), back(x, 2, 1, 145, 0, 1, "c"));
     }
 
     /** Commits without parents that differ in their number alone: each is like all others. */
@@ -266,9 +294,9 @@ public final class PackTest {
         Check.same("no objects went", Bytes.count(x), 13);
     }
 
-    /** Whole packs of 599, 600 and 601 bytes. */
+    /** Whole packs of 599 and 600 bytes, and all that are a little longer. */
     private static void sixHundredBytesFit() {
-        for (int length = 599; length <= 601; length++) {
+        for (int length = 599; length <= 720; length++) {
             ObjectDepot x = new ObjectDepot();
             x.tree();
             int first = x.commit(0, -1, -1, 100);
@@ -279,6 +307,13 @@ public final class PackTest {
             x.move(0, -1, x.commit(x.tree(), third, -1, 100));
             Check.same("pack of " + length, x.pack(0), length > 600 ? FULL : 6 + blobs);
             Check.same("wire of " + length, x.wire(-1), length > 600 ? 0 : length);
+            if (length <= 600) {
+                byte[] wire = Bytes.wireOf(x);
+                Check.yes("its sum", Bytes.same(wire, Bytes.withSum(Arrays.copyOf(wire, length - 4))));
+                x.move(0, x.reference(0), -1);
+                Check.same("cleaned", x.clean(), 6 + blobs);
+                Check.same("it can be taken in", x.unpack(), 6 + blobs);
+            }
         }
     }
 

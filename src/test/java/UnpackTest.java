@@ -23,6 +23,7 @@ public final class UnpackTest {
         twiceCountsOnce();
         headsAreRead();
         cutOrLongerIsBroken();
+        cutAtTheGreatestLength();
         everyAlteredByteIsSeen();
         onlyFiveForms();
         blobContents();
@@ -40,17 +41,26 @@ public final class UnpackTest {
         Check.end();
     }
 
-    /** Taken in by a new object. */
-    private static int result(byte[]... members) {
-        return Bytes.takeIn(new ObjectDepot(), Bytes.pack(members));
+    /** Taken in by a new object, and by one that holds nothing any more, but has taken in packs. */
+    private static void wireDue(String what, int due, byte[] wire) {
+        ObjectDepot used = new ObjectDepot();
+        Bytes.takeIn(used, mixedPack());
+        Check.same("cleaned", used.clean(), 6);
+        for (ObjectDepot x : new ObjectDepot[] {new ObjectDepot(), used}) {
+            Check.same(what, Bytes.takeIn(x, wire), due);
+            Check.yes(what + ": the wire stays", Bytes.same(Bytes.wireOf(x), wire));
+            Check.same(what + ": objects", Bytes.count(x), Math.max(0, due));
+        }
     }
 
     private static void due(String what, int due, byte[]... members) {
-        ObjectDepot x = new ObjectDepot();
-        byte[] pack = Bytes.pack(members);
-        Check.same(what, Bytes.takeIn(x, pack), due);
-        Check.yes(what + ": the wire stays", Bytes.same(Bytes.wireOf(x), pack));
-        Check.same(what + ": objects", Bytes.count(x), Math.max(0, due));
+        wireDue(what, due, Bytes.pack(members));
+    }
+
+    private static byte[] mixedPack() {
+        return Bytes.pack(Bytes.whole(BLOB, HELLO), Bytes.deltaBack(14, 1, Bytes.of(140, 0, 2, "!!")),
+            Bytes.deltaNamed(5, HELLO_NAME, Bytes.of(133, 0)), Bytes.whole(TREE, Bytes.entry(BLOB, 'q', HELLO_NAME)),
+            EMPTY_TREE, Bytes.whole(COMMIT, FIRST));
     }
 
     private static void ownPacksComeBack() {
@@ -119,12 +129,6 @@ public final class UnpackTest {
             Bytes.whole(BLOB, HELLO), Bytes.whole(BLOB, HELLO), EMPTY_TREE)), 2);
     }
 
-    private static void wireDue(String what, int due, byte[] wire) {
-        ObjectDepot x = new ObjectDepot();
-        Check.same(what, Bytes.takeIn(x, wire), due);
-        Check.same(what + ": objects", Bytes.count(x), Math.max(0, due));
-    }
-
     private static void headsAreRead() {
         byte[] member = Bytes.whole(BLOB, HELLO);
         wireDue("one", 1, Bytes.withSum(Bytes.of(80, 1, member)));
@@ -145,12 +149,6 @@ public final class UnpackTest {
         wireDue("24 times the same", 1, Bytes.pack(Arrays.copyOf(many, 24)));
     }
 
-    private static byte[] mixedPack() {
-        return Bytes.pack(Bytes.whole(BLOB, HELLO), Bytes.deltaBack(14, 1, Bytes.of(140, 0, 2, "!!")),
-            Bytes.deltaNamed(5, HELLO_NAME, Bytes.of(133, 0)), Bytes.whole(TREE, Bytes.entry(BLOB, 'q', HELLO_NAME)),
-            EMPTY_TREE, Bytes.whole(COMMIT, FIRST));
-    }
-
     private static void cutOrLongerIsBroken() {
         byte[] pack = mixedPack();
         wireDue("uncut", 6, pack);
@@ -163,6 +161,25 @@ public final class UnpackTest {
         wireDue("a byte more", BROKEN, Bytes.of(pack, 0));
         wireDue("a byte more under the sum", BROKEN, Bytes.withSum(Arrays.copyOf(pack, pack.length - 3)));
         wireDue("twice", BROKEN, Bytes.of(pack, pack));
+    }
+
+    /** The cut member ends where the wire can hold no more. */
+    private static void cutAtTheGreatestLength() {
+        byte[][] cut = {Bytes.of(BLOB), Bytes.of(BLOB, 9), Bytes.of(BLOB, 9, "abc"), Bytes.of(4), Bytes.of(4, 9),
+            Bytes.of(4, 9, 1), Bytes.of(4, 9, 1, 3), Bytes.of(4, 9, 1, 3, 137), Bytes.of(5), Bytes.of(5, 9),
+            Bytes.of(5, 9, Arrays.copyOf(HELLO_NAME, 19)), Bytes.of(5, 9, HELLO_NAME),
+            Bytes.of(5, 9, HELLO_NAME, 2, 137), Bytes.of(5, 9, HELLO_NAME, 2, 5)};
+        for (byte[] last : cut) {
+            byte[] wire = Bytes.of(80, 24, Bytes.whole(BLOB, HELLO));
+            while (wire.length + last.length < 600) {
+                int n = Math.min(50, 600 - wire.length - last.length);
+                n = 600 - wire.length - last.length - n == 1 ? n - 1 : n;
+                wire = Bytes.of(wire, Bytes.whole(BLOB, new byte[n - 2]));
+            }
+            wire = Bytes.of(wire, last);
+            Check.same("a full wire", wire.length, 600);
+            wireDue("a full wire with its last member cut", BROKEN, wire);
+        }
     }
 
     private static void everyAlteredByteIsSeen() {
@@ -194,6 +211,8 @@ public final class UnpackTest {
         due("said longer than it is", BROKEN, Bytes.of(BLOB, 3, "ab"));
         due("said longer than the wire", BROKEN, Bytes.of(BLOB, 200, "ab"));
         due("said shorter than it is", BROKEN, Bytes.of(BLOB, 1, "ab"));
+        due("said longer than the wire, with members in it", BROKEN, Bytes.of(BLOB, 200), EMPTY_TREE);
+        due("said as long as the member behind it", BROKEN, Bytes.of(BLOB, 2), EMPTY_TREE);
     }
 
     private static void treeDue(String what, int due, Object... parts) {
@@ -256,6 +275,8 @@ public final class UnpackTest {
             commitDue("digit " + digit + " in the tree", BROKEN, t.substring(0, 44) + digit + "\n\n5\n");
             commitDue("digit " + digit + " in a parent", BROKEN, t + "parent " + digit + p.substring(8) + "\n5\n");
         }
+        commitDue("no digits", BROKEN, "tree \n\n5\n");
+        commitDue("no digits in a parent", BROKEN, t + "parent \n\n5\n");
         commitDue("39 digits", BROKEN, t.substring(0, 44) + "\n\n5\n");
         commitDue("41 digits", BROKEN, t.substring(0, 45) + "0\n\n5\n");
         commitDue("words otherwise", BROKEN, "Tree" + t.substring(4) + "\n5\n");
@@ -282,8 +303,11 @@ public final class UnpackTest {
         blobIs("from three before", x, 2, "depot..");
         blobIs("from a delta", x, 3, "t=\0helt=\0hel");
         due("0 members back", BROKEN, base, Bytes.deltaBack(5, 0, Bytes.of(133, 0)));
+        due("0 members back without a copy", BROKEN, base, Bytes.deltaBack(1, 0, Bytes.of(1, "x")));
         due("before the first", BROKEN, base, Bytes.deltaBack(5, 2, Bytes.of(133, 0)));
         due("far before the first", BROKEN, base, Bytes.deltaBack(5, 255, Bytes.of(133, 0)));
+        due("before the first, without parts", BROKEN, base, Bytes.deltaBack(0, 2, new byte[0]));
+        due("before the first, without parts", BROKEN, base, Bytes.deltaBack(14, 2, new byte[0]));
         due("the first one", BROKEN, Bytes.deltaBack(5, 1, Bytes.of(133, 0)), base);
         due("the first one without a copy", BROKEN, Bytes.deltaBack(1, 1, Bytes.of(1, "x")), base);
         due("an empty one", 2, base, Bytes.deltaBack(0, 1, new byte[0]));
@@ -300,6 +324,8 @@ public final class UnpackTest {
         Check.same("from a member before it", Bytes.takeIn(y, Bytes.pack(Bytes.whole(BLOB, HELLO), delta)), 2);
         blobIs("from a member before it", y, 1, "depot??");
         due("from a member behind it", BROKEN, delta, Bytes.whole(BLOB, HELLO));
+        due("from none, without parts", BROKEN, Bytes.deltaNamed(0, HELLO_NAME, new byte[0]));
+        due("from none, without parts", BROKEN, Bytes.deltaNamed(12, HELLO_NAME, new byte[0]));
         due("from itself", BROKEN, Bytes.deltaNamed(12, HELLO_NAME, Bytes.of(12, HELLO)));
         byte[] chained = Bytes.name(BLOB, Bytes.of("depot??"));
         due("from a delta", 3, Bytes.whole(BLOB, HELLO), delta, Bytes.deltaNamed(4, chained, Bytes.of(132, 3)));
@@ -349,6 +375,11 @@ public final class UnpackTest {
         deltaDue("an insert that is cut", BROKEN, 2, 3, "xy");
         deltaDue("an insert without bytes", BROKEN, 0, 3);
         deltaDue("a copy that is cut", BROKEN, 5, 133);
+        deltaDue("a copy over the end behind all bytes", BROKEN, 2, 2, "xy", 129, 12);
+        deltaDue("an insert of 0 behind all bytes", BROKEN, 2, 2, "xy", 0);
+        deltaDue("a copy of 0 behind all bytes", BROKEN, 2, 2, "xy", 128, 0);
+        deltaDue("a cut insert behind all bytes", BROKEN, 2, 2, "xy", 5, "z");
+        deltaDue("a cut copy behind all bytes", BROKEN, 2, 2, "xy", 133);
         deltaDue("fewer bytes than said", BROKEN, 3, 2, "xy");
         deltaDue("more bytes than said", BROKEN, 1, 2, "xy");
         deltaDue("no bytes, but one said", BROKEN, 1);
@@ -450,8 +481,8 @@ public final class UnpackTest {
         byte[] lacking = Bytes.whole(TREE, Bytes.entry(BLOB, 'a', new byte[20]));
         byte[] broken = Bytes.whole(BLOB, new byte[49]);
         byte[] one = Bytes.whole(BLOB, Bytes.of("one"));
-        Check.same("lacking, then broken", result(lacking, broken), BROKEN);
-        Check.same("lacking alone", result(lacking, one), LACKING);
+        due("lacking, then broken", BROKEN, lacking, broken);
+        due("lacking alone", LACKING, lacking, one);
         byte[] wrongSum = Bytes.pack(lacking);
         wrongSum[wrongSum.length - 1]++;
         wireDue("lacking, with a wrong sum", BROKEN, wrongSum);
