@@ -1104,9 +1104,14 @@ public final class ObjectDepot {
             return false;
         }
 
+        /** Every member is asked, as one of another kind with that name says nothing of the rest. */
         private boolean isThere(Name name, int kind, Store store) {
-            int i = memberNamed(name, count);
-            return i != NONE ? members[i].kind == kind : store.holds(store.numberOf(name), kind);
+            for (int i = 0; i < count; i++) {
+                if (members[i].kind == kind && members[i].name.isSame(name)) {
+                    return true;
+                }
+            }
+            return store.holds(store.numberOf(name), kind);
         }
 
         int countFresh(Store store) {

@@ -11,6 +11,9 @@ final class Bytes {
     static final int TREE = 2;
     static final int BLOB = 3;
 
+    // Only few NAMEs, if .ci/run says so: then contents of different kinds often have the same one.
+    private static final int NAME_MASK = Integer.getInteger("depot.nameMask", -1);
+
     private Bytes() {
     }
 
@@ -39,7 +42,17 @@ final class Bytes {
 
     static byte[] name(int kind, byte[] content) {
         String word = kind == COMMIT ? "commit" : kind == TREE ? "tree" : "blob";
-        return sha1(of(word + " " + content.length, 0, content));
+        byte[] name = sha1(of(word + " " + content.length, 0, content));
+        return NAME_MASK == -1 ? name : fewNames(word(name, 0) & NAME_MASK);
+    }
+
+    /** As the class that .ci/run makes for this names its objects: five times the same word. */
+    private static byte[] fewNames(int word) {
+        ByteBuffer name = ByteBuffer.allocate(20);
+        for (int i = 0; i < 5; i++) {
+            name.putInt(word);
+        }
+        return name.array();
     }
 
     static int word(byte[] name, int i) {

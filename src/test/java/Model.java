@@ -2,7 +2,6 @@ import java.util.ArrayDeque;
 import java.util.ArrayList;
 import java.util.Arrays;
 import java.util.Deque;
-import java.util.LinkedHashMap;
 import java.util.List;
 import java.util.Map;
 import java.util.Set;
@@ -32,6 +31,10 @@ final class Model {
             this.content = content;
             this.name = text(Bytes.name(kind, bytes(content)));
         }
+    }
+
+    /** A NAME in a content, and the kind that what has it must have there. */
+    private record Link(String name, int kind) {
     }
 
     private static final class Broken extends Exception {
@@ -88,41 +91,36 @@ final class Model {
         return objects.containsKey(k) && objects.get(k).kind == kind;
     }
 
-    /** What a content names, by name, with the kind; null if it is no content of its kind. */
-    private static Map<String, Integer> named(int kind, String content) {
-        Map<String, Integer> all = new LinkedHashMap<>();
+    /** What a content names; null if it is no content of its kind. */
+    private static List<Link> links(int kind, String content) {
         if (kind == 3) {
-            return content.length() <= 48 ? all : null;
+            return content.length() <= 48 ? List.of() : null;
         }
-        if (kind == 1) {
-            Matcher m = COMMIT_FORM.matcher(content);
-            if (!m.matches()) {
-                return null;
-            }
-            for (int g = 1; g <= 3; g++) {
-                if (m.group(g) != null) {
-                    Integer old = all.put(unhex(m.group(g)), g == 1 ? 2 : 1);
-                    if (old != null && old != (g == 1 ? 2 : 1)) {
-                        all.put("of two kinds", 9);
-                    }
-                }
-            }
-            return all;
-        }
-        return namedByTree(content, all);
+        return kind == 2 ? linksOfTree(content) : linksOfCommit(content);
     }
 
-    private static Map<String, Integer> namedByTree(String content, Map<String, Integer> all) {
+    private static List<Link> linksOfCommit(String content) {
+        Matcher m = COMMIT_FORM.matcher(content);
+        if (!m.matches()) {
+            return null;
+        }
+        List<Link> all = new ArrayList<>();
+        for (int g = 1; g <= 3; g++) {
+            if (m.group(g) != null) {
+                all.add(new Link(unhex(m.group(g)), g == 1 ? 2 : 1));
+            }
+        }
+        return all;
+    }
+
+    private static List<Link> linksOfTree(String content) {
+        List<Link> all = new ArrayList<>();
         Matcher m = ENTRY_FORM.matcher(content);
         String letters = "";
         int at = 0;
         while (m.find(at) && m.start() == at) {
             letters += m.group(2);
-            int kind = m.group(1).equals("100644") ? 3 : 2;
-            Integer old = all.put(m.group(3), kind);
-            if (old != null && old != kind) {
-                all.put("of two kinds", 9);
-            }
+            all.add(new Link(m.group(3), m.group(1).equals("100644") ? 3 : 2));
             at = m.end();
             if (at == content.length()) {
                 break;
@@ -153,8 +151,8 @@ final class Model {
         if (!all.add(k)) {
             return;
         }
-        for (String name : named(objects.get(k).kind, objects.get(k).content).keySet()) {
-            int next = numberOf(name);
+        for (Link link : links(objects.get(k).kind, objects.get(k).content)) {
+            int next = numberOf(link.name);
             if (next < 0) {
                 throw new IllegalStateException("object " + k + " names what is not in the store");
             }
@@ -388,23 +386,23 @@ final class Model {
         } catch (Broken e) {
             return -3;
         }
-        Map<String, Thing> there = new LinkedHashMap<>();
-        objects.values().forEach(t -> there.put(t.name, t));
-        int before = there.size();
-        members.forEach(t -> there.put(t.name, t));
+        // Two contents of different kinds may have one NAME: all things are asked, not one for each NAME.
+        List<Thing> there = new ArrayList<>(objects.values());
+        there.addAll(members);
         for (Thing member : members) {
-            for (Map.Entry<String, Integer> e : named(member.kind, member.content).entrySet()) {
-                Thing thing = there.get(e.getKey());
-                if (thing == null || thing.kind != e.getValue()) {
+            for (Link link : links(member.kind, member.content)) {
+                if (there.stream().noneMatch(t -> t.name.equals(link.name) && t.kind == link.kind)) {
                     return -4;
                 }
             }
         }
-        if (there.size() > 24) {
+        int before = objects.size();
+        int after = (int) there.stream().map(t -> t.name).distinct().count();
+        if (after > 24) {
             return -2;
         }
         members.forEach(this::store);
-        return there.size() - before;
+        return after - before;
     }
 
     private int at;
@@ -452,7 +450,7 @@ final class Model {
             content = changed(base.content, take(take(1).charAt(0)));
             must(content.length() == length);
         }
-        must(named(kind, content) != null);
+        must(links(kind, content) != null);
         return new Thing(kind, content);
     }
 
