@@ -298,41 +298,16 @@ public final class PackTest {
     private static void sixHundredBytesFit() {
         for (int length = 599; length <= 720; length++) {
             ObjectDepot x = new ObjectDepot();
-            x.tree();
-            int first = x.commit(0, -1, -1, 100);
-            int second = x.commit(0, first, first, 100);
-            int third = x.commit(0, second, second, 100);
-            // The empty tree and these commits take 2, 53 and twice 149 bytes, the one below 101.
-            int blobs = fillList(x, length - 6 - 2 - 53 - 2 * 149 - 101);
-            x.move(0, -1, x.commit(x.tree(), third, -1, 100));
-            Check.same("pack of " + length, x.pack(0), length > 600 ? FULL : 6 + blobs);
+            int members = Setups.packOf(x, length);
+            Check.same("pack of " + length, x.pack(0), length > 600 ? FULL : members);
             Check.same("wire of " + length, x.wire(-1), length > 600 ? 0 : length);
             if (length <= 600) {
                 byte[] wire = Bytes.wireOf(x);
                 Check.yes("its sum", Bytes.same(wire, Bytes.withSum(Arrays.copyOf(wire, length - 4))));
                 x.move(0, x.reference(0), -1);
-                Check.same("cleaned", x.clean(), 6 + blobs);
-                Check.same("it can be taken in", x.unpack(), 6 + blobs);
+                Check.same("cleaned", x.clean(), members);
+                Check.same("it can be taken in", x.unpack(), members);
             }
         }
-    }
-
-    /** Lists blobs so that they and the tree of them take this many bytes of a pack: how many. */
-    private static int fillList(ObjectDepot x, int bytes) {
-        int left = bytes - 2;
-        int blobs = 0;
-        while (left > 0) {
-            int n = Math.min(48, left - 31);
-            if (left - 31 - n > 0 && left - 31 - n < 31) {
-                n -= 31;
-            }
-            char[] text = new char[n];
-            Arrays.fill(text, (char) ('a' + blobs));
-            x.entry(blobs, Bytes.blob(x, new String(text)));
-            left -= 31 + n;
-            blobs++;
-        }
-        Check.same("all bytes are used", left, 0);
-        return blobs;
     }
 }
