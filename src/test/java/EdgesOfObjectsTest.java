@@ -422,13 +422,20 @@ public final class EdgesOfObjectsTest {
     }
 
     private static void parentsAre(String what, int p, int q, int... parents) {
-        ObjectDepot x = Edge.taken(what, Setups::mixed, y -> y.commit(Setups.TREE, p, q, 5), Setups.OBJECTS);
+        for (int number : new int[] {5, 50, 999}) {
+            parentsAre(what + " and " + number, number, p, q, parents);
+        }
+    }
+
+    private static void parentsAre(String what, int number, int p, int q, int[] parents) {
+        ObjectDepot x = Edge.taken(what, Setups::mixed, y -> y.commit(Setups.TREE, p, q, number), Setups.OBJECTS);
         byte[][] names = new byte[parents.length][];
         for (int i = 0; i < names.length; i++) {
             names[i] = Bytes.nameOf(x, parents[i]);
         }
-        byte[] due = Bytes.commit(5, Bytes.nameOf(x, Setups.TREE), names);
+        byte[] due = Bytes.commit(number, Bytes.nameOf(x, Setups.TREE), names);
         Check.yes(what + ": content", Bytes.same(Bytes.contentOf(x, Setups.OBJECTS), due));
+        Check.yes(what + ": name", Bytes.same(Bytes.nameOf(x, Setups.OBJECTS), Bytes.name(Bytes.COMMIT, due)));
     }
 
     /** "each is none if it is -1; if they are the same, it stands there twice"; NONE if it "is not -1 and no commit". */

@@ -81,7 +81,11 @@ public final class EdgesOfPackTest {
 
     /** "FULL if it would have more than 600 bytes". */
     private static void packTakesUpTo600() {
-        for (int length = 599; length <= 607; length++) {
+        for (int length = 599; length <= 710; length++) {
+            // Behind 607 those where the last member, of 101 bytes, begins just before or at the end.
+            if (length > 607 && length < 699) {
+                continue;
+            }
             ObjectDepot x = new ObjectDepot();
             int members = Setups.packOf(x, length);
             int bytes = length;
@@ -98,7 +102,6 @@ public final class EdgesOfPackTest {
                 Edge.refused("a pack of " + length, objects, y -> y.pack(0), FULL);
             }
         }
-        Edge.refused("a pack of 700", y -> Setups.packOf(y, 700), y -> y.pack(0), FULL);
         Edge.refused("a pack of far more", EdgesOfPackTest::longHistory, y -> y.pack(5), FULL);
     }
 

@@ -45,6 +45,7 @@ public final class EdgesOfUnpackTest {
         baseIsNamed();
         deltaHasItsBasesKind();
         deltaHasAsManyBytesAsSaid();
+        membersEndWithTheWire();
         deltaGivesAsManyBytesAsSaid();
         copiesEndWithTheBase();
         partsAre1To127();
@@ -62,9 +63,19 @@ public final class EdgesOfUnpackTest {
 
     private static Consumer<ObjectDepot> withWire(int objects, byte[] wire) {
         return x -> {
+            takeInAndClean(x);
             Setups.mixed(x, objects);
             Bytes.setWire(x, wire);
         };
+    }
+
+    /** An earlier pack of 24 members, which are gone: nothing of them may be taken for a part of a later one. */
+    private static void takeInAndClean(ObjectDepot x) {
+        byte[][] members = new byte[24][];
+        Arrays.fill(members, MEMBER);
+        Bytes.takeIn(x, Bytes.pack(members));
+        x.clean();
+        x.alter(0, -1);
     }
 
     private static void wireTaken(String what, int fresh, byte[] wire) {
@@ -219,6 +230,9 @@ public final class EdgesOfUnpackTest {
         refused("11 said, 10 there", BROKEN, Bytes.of(BLOB, 11, TEXT));
         refused("14 said, 10 and the sum there", BROKEN, Bytes.of(BLOB, 14, TEXT));
         refused("255 said", BROKEN, Bytes.of(BLOB, 255, TEXT));
+        refused("1 said, none there", BROKEN, Bytes.of(BLOB, 1));
+        refused("255 said, none there", BROKEN, Bytes.of(BLOB, 255));
+        wireRefused("255 said, and a member there", BROKEN, Bytes.withSum(Bytes.of(80, 2, BLOB, 255, MEMBER)));
         refused("no number", BROKEN, MEMBER, Bytes.of(BLOB));
     }
 
@@ -388,6 +402,8 @@ public final class EdgesOfUnpackTest {
                     + PARENT_LINE.substring(0, 7 + place) + digit + PARENT_LINE.substring(8 + place) + "\n7\n");
             }
         }
+        commitRefused("no digits of the tree", "tree \n\n7\n");
+        commitRefused("no digits of a parent", TREE_LINE + "parent \n\n7\n");
         commitRefused("39 digits of the tree", TREE_LINE.substring(0, 44) + "\n\n7\n");
         commitRefused("41 digits of the tree", TREE_LINE.substring(0, 45) + "0\n\n7\n");
         commitRefused("39 digits of a parent", TREE_LINE + PARENT_LINE.substring(0, 46) + "\n\n7\n");
@@ -479,6 +495,23 @@ public final class EdgesOfUnpackTest {
         refused("19 bytes of a name", BROKEN, MEMBER, Bytes.of(5, 1, Arrays.copyOf(TEXT_NAME, 19), 2, 1, "x"));
     }
 
+    /** Each kind of member, cut behind each of its bytes, at the end of a wire that can hold no more. */
+    private static void membersEndWithTheWire() {
+        byte[][] whole = {MEMBER, Bytes.whole(TREE, Bytes.entry(BLOB, 'a', STORED_BLOB)),
+            Bytes.whole(COMMIT, Bytes.commit(7, STORED_TREE)), Bytes.of(4, 7, 1, 6, 132, 0, 3, "xyz"),
+            Bytes.of(5, 7, STORED_BLOB, 6, 129, 0, 5, "wxyz!")};
+        for (byte[] member : whole) {
+            for (int n = 0; n < member.length; n++) {
+                byte[] before = packOf(600 - n + 4);
+                before = Arrays.copyOf(before, 600 - n);
+                before[1]++;
+                byte[] wire = Bytes.of(before, Arrays.copyOf(member, n));
+                Check.same("a full wire", wire.length, 600);
+                wireRefused("kind " + member[0] + " cut behind " + n + " bytes", BROKEN, wire);
+            }
+        }
+    }
+
     private static void deltaTaken(String what, int length, Object... delta) {
         taken(what, 2, MEMBER, Bytes.deltaBack(length, 1, Bytes.of(delta)));
         taken(what + ", named", 2, MEMBER, Bytes.deltaNamed(length, TEXT_NAME, Bytes.of(delta)));
@@ -518,6 +551,9 @@ public final class EdgesOfUnpackTest {
         deltaRefused("from far behind the end", 1, 129, 255);
         deltaRefused("11 of 10", 11, 139, 0);
         deltaRefused("over the end, then right", 7, 133, 6, 130, 0);
+        deltaRefused("over the end, then as many as said", 2, 133, 6, 130, 0);
+        deltaRefused("as many as said, then over the end", 2, 130, 0, 133, 6);
+        deltaRefused("over the end alone, and none said", 0, 129, 10);
         refused("from an empty base", BROKEN, Bytes.whole(BLOB, new byte[0]), Bytes.deltaBack(1, 1, Bytes.of(129, 0)));
         taken("all of the base", 1, MEMBER, Bytes.deltaBack(10, 1, Bytes.of(138, 0)));
     }
@@ -555,6 +591,10 @@ public final class EdgesOfUnpackTest {
         deltaRefused("a copy without a place, none said", 0, 132);
         // The bytes that they lack stand behind the delta, in the next member.
         refused("an insert into the next member", BROKEN, MEMBER, Bytes.of(4, 3, 1, 2, 3, "x"), Bytes.whole(BLOB, new byte[0]));
+        // What is broken is not read as a member instead.
+        wireRefused("a cut insert that reads as a member", BROKEN, Bytes.withSum(Bytes.of(80, 3, MEMBER, 4, 0, 1, 2, BLOB, 0)));
+        wireRefused("a cut insert that reads as a member, named", BROKEN,
+            Bytes.withSum(Bytes.of(80, 3, MEMBER, 5, 0, TEXT_NAME, 2, BLOB, 0)));
         refused("a copy with its place in the next member", BROKEN, MEMBER, Bytes.of(4, 4, 1, 1, 132), Bytes.whole(BLOB, new byte[0]));
     }
 
@@ -582,6 +622,12 @@ public final class EdgesOfUnpackTest {
         taken("a member before it", 2, MEMBER, tree);
         taken("a member behind it", 2, tree, MEMBER);
         refused("neither", LACKING, tree);
+        byte[][] many = new byte[24][];
+        Arrays.fill(many, Bytes.whole(BLOB, Bytes.of("other")));
+        many[23] = tree;
+        refused("neither, with 23 other members", LACKING, many);
+        many[22] = MEMBER;
+        taken("with 22 other members", 3, many);
         taken("all turned round", 3, commit, tree, MEMBER);
         refused("what a member names", LACKING, commit, tree);
         refused("a commit's tree", LACKING, commit, MEMBER);
