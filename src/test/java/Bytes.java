@@ -67,6 +67,14 @@ final class Bytes {
         return text.toString();
     }
 
+    static byte[] unhex(String digits) {
+        byte[] bytes = new byte[digits.length() / 2];
+        for (int i = 0; i < bytes.length; i++) {
+            bytes[i] = (byte) Integer.parseInt(digits.substring(2 * i, 2 * i + 2), 16);
+        }
+        return bytes;
+    }
+
     static byte[] entry(int kind, char letter, byte[] name) {
         return of(kind == BLOB ? "100644 " : "40000 ", (int) letter, 0, name);
     }
